@@ -195,6 +195,9 @@ public final class PromiseTest {
         holds(x, 0, 0, 127, 128, 1, 255, 127, 128, 128, 1);
         due("sevens(-1)", 10, x.sevens(1, -1));
         holds(x, 1, 255, 255, 255, 255, 255, 255, 255, 255, 255, 1);
+        due("sevens(300)", 2, x.sevens(2, 300));
+        due("sevens(624485)", 3, x.sevens(2, 624485));
+        holds(x, 2, 172, 2, 229, 142, 38);
         for (int groups = 1; groups < 10; groups++) {
             long first = 1L << (7 * groups);
             PacketDesk y = new PacketDesk(16);
@@ -641,7 +644,14 @@ public final class PromiseTest {
         due("one less", 0, x.same(0, 1) ? 1 : 0);
         due("one less", 0, x.same(1, 0) ? 1 : 0);
         x.cut(0, 2);
-        due("same behind a cut", 1, x.same(1, 0) ? 1 : 0);
+        x.cut(0, 1);
+        x.cut(1, 1);
+        put(x, 0, 7);
+        x.cut(0, 1);
+        due("same before what was cut off", 1, x.same(1, 0) ? 1 : 0);
+        PacketDesk full = filled(16, 16);
+        full.copy(3, 0, 0, 16);
+        due("same when full", 1, full.same(0, 3) ? 1 : 0);
         noRows(x, "same", k -> d -> d.same(k, 0) ? 1 : 0);
         noRows(x, "same other", k -> d -> d.same(0, k) ? 1 : 0);
     }
