@@ -93,8 +93,8 @@ public final class ReadingTest {
 
     private static void orderOfRefusals() {
         Edges.sentence("Promise 12", "For all calls that read: IndexOutOfBoundsException, when there is no such row;"
-            + " IllegalArgumentException, when another number is none that is told, or what is read is wrong; NoSuchElementException,"
-            + " when reading ends.");
+            + " IllegalArgumentException, when another number is none that is told, or what is read is wrong;"
+            + " NoSuchElementException, when reading ends.");
         Edges.Start ended = at2();
         Edges.Start wrong = at2(128, 0);
         for (Edges.Start start : new Edges.Start[] {ended, wrong}) {
@@ -226,13 +226,14 @@ public final class ReadingTest {
                 int[] inside = Edges.part(row, 0, many);
                 Edges.Start start = Edges.Start.of(16).with(1, 1, Edges.joined(Edges.bytes(7), Edges.blockOf(inside)))
                     .with(2, had, Edges.pattern(had));
-                Edges.taken(start, "block of " + many, many, start.placed(1, 2 + many).with(2, 0, inside), x -> x.readBlock(1, 2));
+                Edges.Start after = start.placed(1, 2 + many).with(2, 0, inside);
+                Edges.taken(start, "block of " + many, many, after, x -> x.readBlock(1, 2));
                 Edges.taken(start, "a byte behind a block of " + many, many + 1,
-                    start.placed(1, 2 + many).with(2, 0, Edges.joined(inside, Edges.bytes(33))), x -> {
+                    after.with(2, 0, Edges.joined(inside, Edges.bytes(33))), x -> {
                         x.readBlock(1, 2);
                         return x.fixed(2, 33, 1);
                     });
-                Edges.taken(start, "a block of " + many + " again", many, start.placed(1, 2 + many).with(2, 0, inside), x -> {
+                Edges.taken(start, "a block of " + many + " again", many, after, x -> {
                     x.readBlock(1, 2);
                     x.place(1, 1);
                     return x.readBlock(1, 2);

@@ -420,8 +420,8 @@ public final class TermsTest {
 
     private static void letterBytes() {
         Edges.sentence("Terms", "Its bytes: below 128: itself; below 2048: 192 + its bits from 6 on, then 128 + its lowest six;"
-            + " below 65536: 224 + its bits from 12 on, then 128 + the next six, 128 + the lowest six; else 240 + its bits from 18 on,"
-            + " and three such.");
+            + " below 65536: 224 + its bits from 12 on, then 128 + the next six, 128 + the lowest six; else"
+            + " 240 + its bits from 18 on, and three such.");
         letterIs(0, 0);
         letterIs(127, 127);
         letterIs(128, 194, 128);

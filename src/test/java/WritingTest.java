@@ -89,8 +89,8 @@ public final class WritingTest {
     }
 
     private static void orderOfRefusals() {
-        Edges.sentence("Promise 2", "For all calls that write: IndexOutOfBoundsException, when there is no such row (or the one that is"
-            + " copied); IllegalArgumentException, when another number is none that is told; IllegalStateException, when the"
+        Edges.sentence("Promise 2", "For all calls that write: IndexOutOfBoundsException, when there is no such row"
+            + " (or the one that is copied); IllegalArgumentException, when another number is none that is told; IllegalStateException, when the"
             + " row would be too long (in this order).");
         Edges.Start full = Edges.Start.of(16).with(0, 4, Edges.pattern(16)).with(1, 2, 1, 2, 3);
         for (int k : Edges.NO_ROWS) {
